@@ -11,6 +11,10 @@ public final class BatchLinks {
     private static final int BATCH = 2;
     private static final int BOX = 3;
 
+    // Two of the facts that told(thing, what) answers, since they are summed over all things, too.
+    private static final int LOST = 3;
+    private static final int GRAMS_TOLD = 7;
+
     private static final int MAX_THINGS = 70;
     private static final int MAX_LAYERS = 80;
     private static final long MAX_GRAMS = 1000000000L;
@@ -19,29 +23,32 @@ public final class BatchLinks {
     private static final int MAX_CUSTOMER = 99;
     private static final int MAX_COUNTRY = 99;
     private static final int MAX_EIGHTHS = 4000;
+    private static final int MAX_TAPE = 400;
+    // Ten bytes of heading and fourteen a layer: a blank, two digits, a colon, ten digits.
+    private static final int MAX_PAPER = 10 + 14 * MAX_LAYERS;
 
     private final Thing[] things;
     private int thingCount;
     private final Tally hauls;
     private final Tally boxesOfCustomers;
-    private final Tape tape;
+    private final Bytes tape;
     private final NamesReader namesReader;
     private Rules rules;
     private Rules spareRules;
     private final Ledger ledger;
-    private final Page page;
+    private final Bytes page;
 
     public BatchLinks() {
         things = new Thing[MAX_THINGS];
         thingCount = 0;
         hauls = new Tally();
         boxesOfCustomers = new Tally();
-        tape = new Tape();
+        tape = new Bytes(MAX_TAPE);
         namesReader = new NamesReader(tape);
         rules = new Rules();
         spareRules = new Rules();
         ledger = new Ledger();
-        page = new Page();
+        page = new Bytes(MAX_PAPER);
     }
 
     public int haul(long grams, int place, int day) {
@@ -308,7 +315,7 @@ public final class BatchLinks {
     public long all(int what) {
         switch (what) {
             case 0:
-                return sumOfFact(7);
+                return sumOfFact(GRAMS_TOLD);
             case 1:
                 return sumInside(HAUL);
             case 2:
@@ -316,7 +323,7 @@ public final class BatchLinks {
             case 3:
                 return sumInside(BOX);
             case 4:
-                return sumOfFact(3);
+                return sumOfFact(LOST);
             case 5:
                 return thingCount;
             case 6:
@@ -438,7 +445,7 @@ public final class BatchLinks {
                     return layers.total();
                 case 2:
                     return layers.size();
-                case 3:
+                case LOST:
                     return lost;
                 case 4:
                     return held ? 1 : 0;
@@ -446,7 +453,7 @@ public final class BatchLinks {
                     return warmest;
                 case 6:
                     return mark;
-                case 7:
+                case GRAMS_TOLD:
                     return grams;
                 case 8:
                     return day;
@@ -602,32 +609,59 @@ public final class BatchLinks {
         }
     }
 
-    /** The bytes told one by one, for a text of names. */
-    private static final class Tape {
-        private static final int MAX_BYTES = 400;
+    /** A row of bytes, each 0 to 255: the tape, or a paper. */
+    private static final class Bytes {
+        private static final int MAX_DIGITS = 19; // of any long
 
-        private final int[] bytes = new int[MAX_BYTES];
+        private final int[] row;
         private int count;
+
+        Bytes(int room) {
+            row = new int[Math.max(room, 0)];
+        }
 
         int size() {
             return count;
         }
 
+        void clear() {
+            count = 0;
+        }
+
+        int byteAt(int place) {
+            return place >= 0 && place < count ? row[place] : NONE;
+        }
+
         boolean put(int value) {
-            if (count >= bytes.length) {
+            if (count >= row.length) {
                 return false;
             }
-            bytes[count] = value;
+            row[count] = value;
             count++;
             return true;
         }
 
-        int byteAt(int place) {
-            return place >= 0 && place < count ? bytes[place] : NONE;
+        void putNumber(long number) {
+            int end = count + digitsOf(number);
+            if (number < 0 || end > row.length) {
+                return;
+            }
+            long left = number;
+            for (int place = end - 1; place >= count; place--) {
+                row[place] = '0' + (int) (left % 10);
+                left /= 10;
+            }
+            count = end;
         }
 
-        void clear() {
-            count = 0;
+        private static int digitsOf(long number) {
+            int digits = 1;
+            long left = number / 10;
+            while (left > 0 && digits < MAX_DIGITS) {
+                left /= 10;
+                digits++;
+            }
+            return digits;
         }
     }
 
@@ -686,11 +720,11 @@ public final class BatchLinks {
         private static final int MAX_NUMBER = 999999;
         private static final int MAX_CODE = 99;
 
-        private final Tape tape;
+        private final Bytes tape;
         private int at;
         private int fault;
 
-        NamesReader(Tape tape) {
+        NamesReader(Bytes tape) {
             this.tape = tape;
         }
 
@@ -765,7 +799,7 @@ public final class BatchLinks {
         }
 
         private void skipBlanks() {
-            for (int step = 0; step < Tape.MAX_BYTES && isBlank(); step++) {
+            for (int step = 0; step < MAX_TAPE && isBlank(); step++) {
                 at++;
             }
         }
@@ -839,54 +873,6 @@ public final class BatchLinks {
                 }
             }
             return true;
-        }
-    }
-
-    /** The bytes of one paper. */
-    private static final class Page {
-        // Ten bytes of heading and fourteen a layer: a blank, two digits, a colon, ten digits.
-        private static final int MAX_BYTES = 10 + 14 * MAX_LAYERS;
-        private static final int MAX_DIGITS = 19; // of any long
-
-        private final int[] bytes = new int[MAX_BYTES];
-        private int count;
-
-        void clear() {
-            count = 0;
-        }
-
-        void put(int value) {
-            if (count < bytes.length) {
-                bytes[count] = value;
-                count++;
-            }
-        }
-
-        void putNumber(long number) {
-            int end = count + digitsOf(number);
-            if (number < 0 || end > bytes.length) {
-                return;
-            }
-            long left = number;
-            for (int place = end - 1; place >= count; place--) {
-                bytes[place] = '0' + (int) (left % 10);
-                left /= 10;
-            }
-            count = end;
-        }
-
-        int byteAt(int place) {
-            return place >= 0 && place < count ? bytes[place] : NONE;
-        }
-
-        private static int digitsOf(long number) {
-            int digits = 1;
-            long left = number / 10;
-            while (left > 0 && digits < MAX_DIGITS) {
-                left /= 10;
-                digits++;
-            }
-            return digits;
         }
     }
 }

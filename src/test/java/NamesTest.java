@@ -26,7 +26,8 @@ public final class NamesTest {
         DUE.is("17: 400 blanks", x.names(), 0);
         DUE.is("16: empty again", x.unit(32), true);
         x.names();
-        int[] far = {256 + '1', -256 + ':', 1024 + '2', Integer.MIN_VALUE + '-', 0x7fffff00 + '3', -256 + ',', '4', ';'};
+        int[] far = {256 + '1', -256 + ':', 1024 + '2', Integer.MIN_VALUE + '-', 0x7fffff00 + '3', -256 + ',', '4',
+            ';'};
         for (int value : far) {
             DUE.is("16: any int", x.unit(value), true);
         }
@@ -163,6 +164,8 @@ public final class NamesTest {
         DUE.is("17: others take their place", Read.names(x, "3:5-5,0;"), 1);
         DUE.is("17: of all", x.name(0, 1, 0), false);
         DUE.is("17: the other one", x.name(0, 3, 0), true);
+        DUE.is("17: the same again", Read.names(x, "3:5-5,0;"), 1);
+        DUE.is("17: none of an older text", x.name(0, 2, 0), false);
         DUE.is("17: none", x.names(), 0);
         DUE.is("17: they are gone", x.name(0, 3, 0), false);
     }
@@ -226,5 +229,10 @@ public final class NamesTest {
         DUE.is("18: the greatest day before the last one of the text", x.name(0, 1, 3), true);
         Read.names(x, "1:6-6,3;2:5-5,3;");
         DUE.is("18: not of another code", x.name(0, 1, 3), false);
+        BatchLinks y = new BatchLinks();
+        y.haul(10, 5, 0);
+        Read.names(y, RULE.repeat(39) + "2:5-5,0;");
+        DUE.is("18: the 40th rule", y.name(0, 2, 0), true);
+        DUE.is("18: none of forty", y.name(0, 3, 0), false);
     }
 }

@@ -28,6 +28,9 @@ public final class OriginTest {
         x.box(3, 5, 1);
         isShare(x, 4, 0, 4, 5);
         isShare(x, 3, 0, 6, 7);
+        x.waste(3, 6);
+        isShare(x, 3, 0, 1, 1);
+        isShare(x, 3, 1, 0, 1);
         for (int part = 0; part < 2; part++) {
             DUE.is("11: no such thing", x.share(5, 0, part), -1);
             DUE.is("11: thing below 0", x.share(-1, 0, part), -1);
@@ -137,6 +140,7 @@ public final class OriginTest {
         x.waste(6, 5);
         DUE.is("13: lost", x.recall(0), 1);
         DUE.is("14: who has it still", x.recalled(0, 0), 99);
+        DUE.is("14: of the other, asked right behind", x.recalled(1, 0), 0);
         x.hold(3, true);
         DUE.is("13: a held box counts", x.recall(0), 1);
     }

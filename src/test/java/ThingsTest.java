@@ -61,6 +61,8 @@ public final class ThingsTest {
         }
         DUE.is("2: the 71st", x.haul(5, 1, 1), -1);
         DUE.is("2: things", x.all(5), 70);
+        DUE.is("2: the last number", x.told(69, 0), 1);
+        DUE.is("2: there is none behind it", x.told(70, 0), -1);
     }
 
     private static void batch() {

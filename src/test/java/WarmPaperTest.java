@@ -107,8 +107,9 @@ public final class WarmPaperTest {
         x.batch();
         StringBuilder due = new StringBuilder("99/69");
         for (int i = 0; i < 80; i++) {
+            // Twelve hauls come twice, in halves: so there are 80 layers with as many digits as can be.
             int haul = i < 68 ? i : i - 68;
-            long grams = i < 12 ? 100000000L : 900000000L;
+            long grams = haul < 12 ? 500000000L : 1000000000L;
             x.into(68, haul, grams);
             due.append(' ').append(haul).append(':').append(grams);
         }
