@@ -23,7 +23,6 @@ public final class BatchLinks {
     private static final int MAX_CUSTOMER = 99;
     private static final int MAX_COUNTRY = 99;
     private static final int MAX_EIGHTHS = 4000;
-    private static final int MAX_TAPE = 400;
     // Ten bytes of heading and fourteen a layer: a blank, two digits, a colon, ten digits.
     private static final int MAX_PAPER = 10 + 14 * MAX_LAYERS;
 
@@ -31,8 +30,7 @@ public final class BatchLinks {
     private int thingCount;
     private final Tally hauls;
     private final Tally boxesOfCustomers;
-    private final Bytes tape;
-    private final NamesReader namesReader;
+    private final Tape tape;
     private Rules rules;
     private Rules spareRules;
     private final Ledger ledger;
@@ -43,8 +41,7 @@ public final class BatchLinks {
         thingCount = 0;
         hauls = new Tally();
         boxesOfCustomers = new Tally();
-        tape = new Bytes(MAX_TAPE);
-        namesReader = new NamesReader(tape);
+        tape = new Tape();
         rules = new Rules();
         spareRules = new Rules();
         ledger = new Ledger();
@@ -226,7 +223,7 @@ public final class BatchLinks {
     }
 
     public int names() {
-        int fault = namesReader.read(spareRules);
+        int fault = tape.read(spareRules);
         tape.clear();
         if (fault != NONE) {
             return -1 - fault;
@@ -714,18 +711,23 @@ public final class BatchLinks {
         }
     }
 
-    /** Reads a text of names off the tape. The first fault stays: all that is read behind it counts for nothing. */
-    private static final class NamesReader {
+    /** The tape, read as a text of names. The first fault stays: all that is read behind it counts for nothing. */
+    private static final class Tape {
+        private static final int MAX_BYTES = 400;
         private static final int MAX_DIGITS = 6;
         private static final int MAX_NUMBER = 999999;
         private static final int MAX_CODE = 99;
 
-        private final Bytes tape;
+        private final Bytes bytes = new Bytes(MAX_BYTES);
         private int at;
         private int fault;
 
-        NamesReader(Bytes tape) {
-            this.tape = tape;
+        boolean put(int value) {
+            return bytes.put(value);
+        }
+
+        void clear() {
+            bytes.clear();
         }
 
         /** The place of the fault, or NONE when the rules found are the text's. */
@@ -735,7 +737,7 @@ public final class BatchLinks {
             found.clear();
             skipBlanks();
             // One round more than there may be rules: the code too many is a fault itself.
-            for (int round = 0; round <= Rules.MAX_RULES && fault == NONE && at < tape.size(); round++) {
+            for (int round = 0; round <= Rules.MAX_RULES && fault == NONE && at < bytes.size(); round++) {
                 readRule(found);
                 skipBlanks();
             }
@@ -762,7 +764,7 @@ public final class BatchLinks {
             int start = at;
             int number = 0;
             for (int digit = 0; digit < MAX_DIGITS && isDigit(); digit++) {
-                number = number * 10 + tape.byteAt(at) - '0';
+                number = number * 10 + bytes.byteAt(at) - '0';
                 at++;
             }
             if (at == start || isDigit()) {
@@ -775,7 +777,7 @@ public final class BatchLinks {
 
         private void readSign(char sign) {
             skipBlanks();
-            if (tape.byteAt(at) == sign) {
+            if (bytes.byteAt(at) == sign) {
                 at++;
             } else {
                 fail(at);
@@ -789,17 +791,17 @@ public final class BatchLinks {
         }
 
         private boolean isDigit() {
-            int value = tape.byteAt(at);
+            int value = bytes.byteAt(at);
             return value >= '0' && value <= '9';
         }
 
         private boolean isBlank() {
-            int value = tape.byteAt(at);
+            int value = bytes.byteAt(at);
             return value == 9 || value == 10 || value == 13 || value == 32;
         }
 
         private void skipBlanks() {
-            for (int step = 0; step < MAX_TAPE && isBlank(); step++) {
+            for (int step = 0; step < MAX_BYTES && isBlank(); step++) {
                 at++;
             }
         }
